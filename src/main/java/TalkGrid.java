@@ -1010,6 +1010,10 @@ public final class TalkGrid {
         private final int[] ears = new int[SESSIONS];
         /** Of each session the rooms that hold it. */
         private final int[] holding = new int[SESSIONS];
+        /** Of each session those that share somebody with it, those of its theme, and those with as many ears or more. */
+        private final int[] meeting = new int[SESSIONS];
+        private final int[] alike = new int[SESSIONS];
+        private final int[] notBelow = new int[SESSIONS];
         private int all;
         private int keynotes;
         /** Of each set its clashes as cost, NEVER when it can't be in one slot. */
@@ -1097,6 +1101,24 @@ public final class TalkGrid {
                     holding[s] = roomsFor(ears[s]);
                 }
             }
+            for (int s = 0; s < SESSIONS; s++) {
+                if (has(all, s)) {
+                    compareWithAll(s);
+                }
+            }
+        }
+
+        private void compareWithAll(int s) {
+            meeting[s] = 0;
+            alike[s] = 0;
+            notBelow[s] = 0;
+            for (int o = 0; o < SESSIONS; o++) {
+                if (has(all, o)) {
+                    meeting[s] |= (people[s] & people[o]) != 0 ? 1 << o : 0;
+                    alike[s] |= theme[s] != NONE && theme[s] == theme[o] ? 1 << o : 0;
+                    notBelow[s] |= ears[o] >= ears[s] ? 1 << o : 0;
+                }
+            }
         }
 
         private int roomsFor(int itsEars) {
@@ -1114,7 +1136,7 @@ public final class TalkGrid {
             for (int set = 1; set < SETS; set++) {
                 int first = firstOf(set);
                 int rest = set & (set - 1);
-                boolean can = (set & ~all) == 0 && together[rest] < NEVER && fits(set);
+                boolean can = (set & ~all) == 0 && together[rest] < NEVER && fits(first, rest);
                 together[set] = can ? together[rest] + clashWith(first, rest) * CLASH : NEVER;
             }
         }
@@ -1129,61 +1151,24 @@ public final class TalkGrid {
             return sum;
         }
 
-        private boolean fits(int set) {
-            boolean keynoteIsAlone = (set & keynotes) == 0 || Integer.bitCount(set) == 1;
-            return keynoteIsAlone && nobodyIsInTwo(set) && themesAreApart(set) && roomsHold(set, ALL_ROOMS);
-        }
-
-        private boolean nobodyIsInTwo(int set) {
-            long seen = 0;
-            for (int s = 0; s < SESSIONS; s++) {
-                if (has(set, s)) {
-                    if ((seen & people[s]) != 0) {
-                        return false;
-                    }
-                    seen |= people[s];
-                }
+        /** Whether a session may come to others in their slot that may be in one themselves. */
+        private boolean fits(int s, int others) {
+            int set = others | 1 << s;
+            if (others != 0 && (set & keynotes) != 0) {
+                return false;
             }
-            return true;
-        }
-
-        private boolean themesAreApart(int set) {
-            for (int s = 0; s < SESSIONS; s++) {
-                if (has(set, s) && theme[s] != NONE && sessionsOfTheme(set, theme[s]) > book[THEME]) {
-                    return false;
-                }
-            }
-            return true;
-        }
-
-        private int sessionsOfTheme(int set, int itsTheme) {
-            int ones = 0;
-            for (int s = 0; s < SESSIONS; s++) {
-                if (has(set, s) && theme[s] == itsTheme) {
-                    ones++;
-                }
-            }
-            return ones;
+            return (meeting[s] & others) == 0 && Integer.bitCount(alike[s] & set) <= book[THEME]
+                    && roomsHold(set, ALL_ROOMS);
         }
 
         /** What holds a session holds every lesser one, so it is enough to count, for each, those that need as much. */
         private boolean roomsHold(int set, int rooms) {
             for (int s = 0; s < SESSIONS; s++) {
-                if (has(set, s) && sessionsNotBelow(set, ears[s]) > Integer.bitCount(rooms & holding[s])) {
+                if (has(set, s) && Integer.bitCount(set & notBelow[s]) > Integer.bitCount(rooms & holding[s])) {
                     return false;
                 }
             }
             return true;
-        }
-
-        private int sessionsNotBelow(int set, int itsEars) {
-            int ones = 0;
-            for (int s = 0; s < SESSIONS; s++) {
-                if (has(set, s) && ears[s] >= itsEars) {
-                    ones++;
-                }
-            }
-            return ones;
         }
 
         private void priceSlot(int slot, Laying before) {
