@@ -209,5 +209,11 @@ public final class SessionsTest {
         Check.due("plan of 1", y.plan(), 0);
         y.open(0, 20, false);
         Check.due("not in the plan", y.fill(0), 0);
+        y.fallOut(0);
+        y.plan();
+        y.talk(0, 10, 10, 1, -1, -1);
+        Check.due("its speaker chairs beside it", y.fill(0), -1);
+        y.shut(1);
+        Check.due("a shut session has no chair", y.fill(0), 1);
     }
 }
