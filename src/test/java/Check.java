@@ -1,24 +1,41 @@
 import java.nio.charset.StandardCharsets;
 import java.util.Arrays;
+import java.util.function.BiFunction;
 
 /** What all tests of the project share: due answers, and texts fed to the tape. */
 final class Check {
     private static int wrong = 0;
+    private static String sentence = "";
 
     private Check() {
+    }
+
+    /** The words of the document that the answers due from here on follow from; SentencesTest reads them too. */
+    static void sentence(String words) {
+        sentence = "[" + words + "] ";
     }
 
     static void due(String call, long got, long want) {
         if (got != want) {
             wrong++;
             if (wrong <= 50) {
-                System.out.println(call + " answered " + got + ", due is " + want);
+                System.out.println(sentence + call + " answered " + got + ", due is " + want);
             }
         }
     }
 
     static void that(String what, boolean holds) {
         due(what + " (1 = so)", holds ? 1 : 0, 1);
+    }
+
+    /** The last values that are taken and the first ones that are RANGE, on either side, each on a new object. */
+    static void bounds(String call, int least, int most, BiFunction<TalkGrid, Integer, Integer> one) {
+        for (int n : new int[] {least, most}) {
+            that(call + " takes " + n, one.apply(new TalkGrid(), n) >= 0);
+        }
+        for (int n : new int[] {least - 1, most + 1, Integer.MIN_VALUE, Integer.MAX_VALUE}) {
+            due(call + " with " + n, one.apply(new TalkGrid(), n), TalkGrid.RANGE);
+        }
     }
 
     static void finish() {
@@ -49,5 +66,10 @@ final class Check {
     static int rules(TalkGrid x, String text) {
         feed(x, text);
         return x.rules();
+    }
+
+    /** Twenty blanks behind the tape. */
+    static int feedBlanks(TalkGrid x) {
+        return x.feed(0x20202020, 0x20202020, 0x20202020, 0x20202020, 0x20202020);
     }
 }
