@@ -1038,7 +1038,7 @@ public final class TalkGrid {
         long leastCost(Laying before) {
             lookAtSessions();
             lookAtSets();
-            int last = Math.min(grid.slots, SLOTS) - 1;
+            int last = lastSlot();
             priceSlot(0, before);
             for (int set = 0; set < SETS; set++) {
                 least[set] = here[set];
@@ -1059,7 +1059,7 @@ public final class TalkGrid {
         void writeTo(Laying laying) {
             laying.renew();
             int left = all;
-            for (int slot = Math.min(grid.slots, SLOTS) - 1; slot >= 0; slot--) {
+            for (int slot = lastSlot(); slot >= 0; slot--) {
                 int set = chosen[slot * SETS + left];
                 for (int s = 0; s < SESSIONS; s++) {
                     if (has(set, s)) {
@@ -1069,6 +1069,10 @@ public final class TalkGrid {
                 giveRooms(set, laying);
                 left &= ~set;
             }
+        }
+
+        private int lastSlot() {
+            return Math.max(0, Math.min(grid.slots, SLOTS) - 1);
         }
 
         private static boolean has(int set, int member) {

@@ -1,5 +1,12 @@
+import java.lang.reflect.Field;
+import java.lang.reflect.Method;
+import java.lang.reflect.Modifier;
 import java.nio.file.Files;
 import java.nio.file.Path;
+import java.util.ArrayList;
+import java.util.List;
+import java.util.Set;
+import java.util.TreeSet;
 import java.util.regex.Matcher;
 import java.util.regex.Pattern;
 
@@ -28,7 +35,35 @@ public final class LanguageTest {
         }
         Check.that("at most twelve classes", many <= 12);
         lengths(source);
+        shapes();
         Check.finish();
+    }
+
+    private static void shapes() {
+        Set<String> face = new TreeSet<>();
+        for (Method m : TalkGrid.class.getMethods()) {
+            face.add(m.getName());
+        }
+        List<Class<?>> all = new ArrayList<>(List.of(TalkGrid.class.getDeclaredClasses()));
+        for (Class<?> inside : all) {
+            Check.that(inside + " is static", Modifier.isStatic(inside.getModifiers()));
+            Check.that(inside + " has no classes inside", inside.getDeclaredClasses().length == 0);
+            for (Method m : inside.getDeclaredMethods()) {
+                Check.that(m + " bears no public method's name", !face.contains(m.getName()));
+            }
+        }
+        all.add(TalkGrid.class);
+        for (Class<?> one : all) {
+            int fields = 0;
+            for (Field f : one.getDeclaredFields()) {
+                fields += Modifier.isStatic(f.getModifiers()) ? 0 : 1;
+                Check.that(f + " is final if static", Modifier.isFinal(f.getModifiers()) || !Modifier.isStatic(f.getModifiers()));
+            }
+            Check.that(one + " has at most twenty fields", fields <= 20);
+            for (Method m : one.getDeclaredMethods()) {
+                Check.that(m + " takes at most seven", m.getParameterCount() <= 7);
+            }
+        }
     }
 
     private static void lengths(String source) {

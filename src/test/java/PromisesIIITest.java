@@ -351,6 +351,10 @@ public final class PromisesIIITest {
         Check.due("of two that aren't in one slot", x.count(5), 9999);
         x.wish(0, 3, 0);
         Check.due("as the wishes are now", x.count(5), 0);
+        x.wish(6, 7, 500);
+        x.open(6, 21, false);
+        Check.due("of two that the plan hasn't", x.count(5), 0);
+        x.shut(6);
         Check.due("none planned", new TalkGrid().count(5), -1);
         Check.due("all talks wait", x.shut(0) + x.count(4), 2 + 7);
         Check.due("one fewer is open", x.count(2), 3);

@@ -175,6 +175,10 @@ public final class TermsIIITest {
         y.shut(1);
         y.open(1, 30, false);
         Check.due("both have one chair", y.plan(), -1);
+        y.open(2, 20, false);
+        y.wish(0, 2, 5);
+        y.wish(1, 2, 5);
+        Check.due("another with both", y.plan(), -1);
     }
 
     private static void themes() {
@@ -200,6 +204,16 @@ public final class TermsIIITest {
                 Check.due("one more of another theme", x.plan(), 0);
             }
         }
+        TalkGrid z = withSessions(0, 1, 6);
+        for (int s = 0; s < 3; s++) {
+            z.open(s, s, false);
+            z.wish(0, Math.max(1, s), 5);
+        }
+        z.put(1, z.talk(0, 10, 10, 20, -1, -1));
+        z.put(2, z.talk(0, 10, 10, 21, -1, -1));
+        Check.due("two of a theme and one without", z.plan(), 10);
+        Check.rules(z, "theme 1;");
+        Check.due("one of a theme", z.plan(), -1);
         TalkGrid y = withSessions(0, 1, 6);
         Check.rules(y, "theme 1;");
         for (int s = 0; s < 6; s++) {
@@ -239,6 +253,12 @@ public final class TermsIIITest {
         laid(x, 0, -1, -1, -1, 0, -1, -1, -1, 1);
         x.slots(1);
         Check.due("two keynotes in one slot", x.plan(), -1);
+        for (int s : new int[] {3, 7}) {
+            x.shut(s);
+            x.open(s, s, false);
+        }
+        Check.due("opened again they are none", x.plan(), 0);
+        laid(x, 0, -1, -1, -1, 0, -1, -1, -1, 0);
     }
 
     /** Whether a session with so many ears may be in a room with so many seats. */
@@ -452,6 +472,17 @@ public final class TermsIIITest {
         Check.due("a new one where it clashes least", x.mend(), 0);
         laid(x, 2, 1, 0, 0, -1, -1, 0);
         Check.due("count(5)", x.count(5), 3 + 2 + 4);
+        TalkGrid late = new TalkGrid();
+        late.slots(5);
+        for (int s = 1; s <= 5; s++) {
+            late.open(s, 7, false);
+            late.wish(0, s, s == 5 ? 0 : 1);
+        }
+        late.plan();
+        late.print();
+        late.open(0, 8, false);
+        Check.due("the first session where it clashes least, in the last slot", late.mend(), 0);
+        laid(late, 2, 4, 0, 1, 2, 3, 4);
         Check.sentence("then the least row of SLOTS,");
         TalkGrid y = withSessions(3, 3, 3);
         y.plan();
@@ -464,6 +495,8 @@ public final class TermsIIITest {
         y.open(4, 20, false);
         Check.due("what was printed stays, what is new is first", y.mend(), 0);
         laid(y, 2, -1, -1, 1, -1, 0);
+        besideTheFirst();
+        earlyAheadOfLate();
         Check.sentence("then of ROOMS:");
         y.room(0, 9);
         y.room(2, 10);
@@ -472,6 +505,74 @@ public final class TermsIIITest {
         y.room(0, 10);
         Check.due("the least again", y.mend(), 0);
         laid(y, 3, -1, -1, 0, -1, 0);
+    }
+
+    private static void besideTheFirst() {
+        TalkGrid x = new TalkGrid();
+        x.slots(3);
+        x.open(0, 1, false);
+        x.open(2, 1, false);
+        x.open(3, 1, false);
+        x.plan();
+        x.print();
+        x.shut(0);
+        x.shut(2);
+        x.mend();
+        laid(x, 2, -1, -1, -1, 2);
+        x.open(0, 1, false);
+        x.open(2, 2, false);
+        x.wish(0, 2, 1);
+        Check.due("0 first, 2 beside 3 or in a slot of its own", x.mend(), 0);
+        laid(x, 2, 0, -1, 1, 2);
+        x.shut(2);
+        x.shut(0);
+        x.mend();
+        x.open(4, 1, false);
+        x.mend();
+        laid(x, 2, -1, -1, -1, 2, 0);
+        x.shut(3);
+        x.open(0, 1, false);
+        Check.due("0 behind 4", x.mend(), 0);
+        laid(x, 2, 1, -1, -1, -1, 0);
+        x.open(1, 5, false);
+        x.wish(1, 4, 9);
+        Check.due("1 beside 0, ahead of a slot of its own", x.mend(), 0);
+        laid(x, 2, 1, 1, -1, -1, 0);
+    }
+
+    /** Where the rows of slots are unlike in an early session and a later one, the early one counts. */
+    private static void earlyAheadOfLate() {
+        TalkGrid x = new TalkGrid();
+        x.slots(5);
+        for (int s = 0; s < 5; s++) {
+            x.open(s, 9, false);
+        }
+        x.plan();
+        x.print();
+        for (int s = 5; s < 8; s++) {
+            x.open(s, s, false);
+        }
+        for (int s = 1; s < 4; s++) {
+            x.wish(5, s + 1, 9);
+            x.wish(6, s, 9);
+            x.wish(7, s, 9);
+        }
+        x.wish(5, 6, 1);
+        x.wish(5, 7, 1);
+        Check.due("5 in 0, so that 6 and 7 are in 4", x.mend(), 0);
+        laid(x, 2, 0, 1, 2, 3, 4, 0, 4, 4);
+        TalkGrid y = new TalkGrid();
+        y.slots(3);
+        for (int s : new int[] {0, 1, 3}) {
+            y.open(s, 9, false);
+        }
+        y.plan();
+        y.print();
+        y.shut(1);
+        y.open(7, 8, false);
+        y.wish(0, 7, 1);
+        Check.due("an empty slot ahead of one that isn't", y.mend(), 0);
+        laid(y, 2, 0, -1, -1, 2, -1, -1, -1, 1);
     }
 
     private static void mendedIsBoth() {
@@ -593,6 +694,19 @@ public final class TermsIIITest {
             x.wish(0, 1, 1);
             x.plan();
             Check.due("in another slot", x.fill(0), p == 7 ? -1 : 2);
+        }
+        for (int first = 0; first < 6; first += 5) {
+            TalkGrid all = withSessions(6, 1, 6);
+            Check.rules(all, "fill any;");
+            Check.due("six side by side", all.plan(), 0);
+            for (int s = 0; s < 6; s++) {
+                all.talk(0, 10, 10, s, -1, -1);
+            }
+            for (int i = 0; i < 6; i++) {
+                int s = Math.abs(first - i);
+                Check.due("who speaks in it already may speak in it again", all.fill(s), 6 + s);
+                Check.due("all others are beside it", all.fill(s), -1);
+            }
         }
         TalkGrid y = new TalkGrid();
         y.open(1, 1, false);

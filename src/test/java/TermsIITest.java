@@ -104,6 +104,14 @@ public final class TermsIITest {
                 faultOf("mixed " + (char) sign + "no;", 1, 6);
             }
         }
+        for (String line : LINES) {
+            for (int i = 0; i < line.length(); i++) {
+                if (Character.isLetter(line.charAt(i))) {
+                    String other = line.substring(0, i) + (line.charAt(i) == 'q' ? 'z' : 'q') + line.substring(i + 1);
+                    faultOf(other, 1, other.lastIndexOf(' ', i) + 1);
+                }
+            }
+        }
         faultOf("gapgap 7;", 1, 0);
         faultOf("ga p 7;", 1, 0);
         faultOf("GAP 7;", 1, 0);

@@ -235,6 +235,13 @@ public final class TermsITest {
     }
 
     private static void extremes() {
+        for (int reader : new int[] {0, 39}) {
+            TalkGrid one = new TalkGrid();
+            one.talk(0, 5, 1, 20, -1, -1);
+            one.talk(0, 5, 1, 20, -1, -1);
+            row(one, reader, 20, 1, 0);
+            scoreIs("of reader " + reader, one, 0, 10, 1);
+        }
         TalkGrid x = withTalks(8);
         TalkGrid y = withTalks(8);
         for (int p = 8; p < 40; p++) {
